@@ -1,0 +1,60 @@
+import java.util.function.Supplier;
+
+/** Counts the answers of one test that are not the ones that are due. */
+final class Check {
+    interface Deed {
+        void on(DraftLeague league);
+    }
+
+    private int wrong;
+
+    void due(String what, long got, long want) {
+        if (got != want) {
+            report(what + " answered " + got + ", due is " + want);
+        }
+    }
+
+    void due(String what, boolean got, boolean want) {
+        if (got != want) {
+            report(what + " answered " + got + ", due is " + want);
+        }
+    }
+
+    void due(String what, double got, double want) {
+        if (got != want) {
+            report(what + " answered " + got + ", due is " + want);
+        }
+    }
+
+    void due(String what, String got, String want) {
+        if (!got.equals(want)) {
+            report(what + " answered " + got + ", due is " + want);
+        }
+    }
+
+    /** The call throws just this, and the league shows the same face before and after. */
+    void refused(String what, Class<? extends RuntimeException> kind, Supplier<DraftLeague> setting, Deed deed) {
+        DraftLeague league = setting.get();
+        String before = Portrait.of(league);
+        String thrown = "nothing";
+        try {
+            deed.on(league);
+        } catch (RuntimeException e) {
+            thrown = e.getClass().getName();
+        }
+        due(what + " throws", thrown, kind.getName());
+        due(what + " leaves", Portrait.of(league), before);
+    }
+
+    void report(String text) {
+        wrong++;
+        System.out.println(text);
+    }
+
+    void finish() {
+        if (wrong != 0) {
+            System.out.println(wrong + " answers are not as due");
+            System.exit(1);
+        }
+    }
+}
