@@ -11,6 +11,7 @@ public final class DraftTest {
         bidRefused();
         proxy();
         proxyFightsProxy();
+        proxiesFightForAllTheirMoney();
         proxyOfATeamWithoutRoom();
         proxyOnlyActsWhenSomethingIsTold();
         proxyRefused();
@@ -152,6 +153,18 @@ public final class DraftTest {
         poor.knock();
         CHECK.due("10 money limits its bids", poor.paidFor(0), 10);
         CHECK.due("10 its money", poor.money(2), 20);
+    }
+
+    /** From the least bid to the most money: no other bid takes as many steps. */
+    private static void proxiesFightForAllTheirMoney() {
+        DraftLeague x = Leagues.plain(3, 500, 0);
+        x.addPlayer(1, 1);
+        x.proxy(1, 0, Integer.MAX_VALUE);
+        x.proxy(2, 0, 500);
+        CHECK.due("10 all the money", x.nominate(0, 0, 1), 1);
+        x.knock();
+        CHECK.due("10 pays all the money", x.money(1), 0);
+        CHECK.due("10 the pot has it", x.pot(), 500);
     }
 
     /** Team 1 has the greater proxy with less money. */

@@ -160,6 +160,9 @@ public final class FiguresTest {
         CHECK.due("42 a player whom no move gave", x.isSound(), false);
         owners[2] = 2;
         CHECK.due("42 as it was", x.isSound(), true);
+        owners[0] = -1;
+        CHECK.due("42 the first player", x.isSound(), false);
+        owners[0] = 1;
         owners[1] = 0;
         CHECK.due("42 a player who has gone", x.isSound(), false);
     }

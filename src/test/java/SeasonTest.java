@@ -14,6 +14,7 @@ public final class SeasonTest {
         scoreOfWeeksThatAreOver();
         fillsByRisingNumbers();
         fillsAgainstBruteForce();
+        fillsOfAFullSquad();
         fillsRefused();
         result();
         CHECK.finish();
@@ -237,6 +238,30 @@ public final class SeasonTest {
                 CHECK.due("30 of all fillings, round " + round, x.fills(0, 0, player), all.positionOf(player));
             }
         }
+    }
+
+    /** The largest squad there is: three places for each position, and six on the bench. */
+    private static void fillsOfAFullSquad() {
+        DraftLeague x = Leagues.plain(1, 500, 19);
+        x.setBench(6);
+        for (int position = 0; position < 4; position++) {
+            x.setPlaces(position, 3);
+        }
+        for (int player = 0; player < 18; player++) {
+            x.nominate(0, player, 2);
+            x.knock();
+            x.did(0, player, 1, player);
+        }
+        CHECK.due("17 a full squad", x.size(0), 18);
+        x.endDraft();
+        CHECK.due("29 the twelve best", x.score(0, 0), 6 + 7 + 8 + 9 + 10 + 11 + 12 + 13 + 14 + 15 + 16 + 17);
+        for (int player = 0; player < 18; player++) {
+            CHECK.due("30 of a full squad", x.fills(0, 0, player), player < 6 ? -1 : (player - 6) / 3);
+        }
+        x.claim(0, 18, -1, 1);
+        x.endWeek();
+        CHECK.due("18 a full squad has no room", x.ownerOf(18), -1);
+        CHECK.due("29 the twelve best, over", x.score(0, 0), 138);
     }
 
     private static void fillsRefused() {
