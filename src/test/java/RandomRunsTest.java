@@ -172,7 +172,8 @@ public final class RandomRunsTest {
             case "setRule" -> set(n, dice.from(0, 3), dice.from(-9, 9));
             case "nominate" -> set(n, turn(), dice.chance(90) ? ownPlayer(-1) : player(), dice.from(2, 9));
             case "bid" -> set(n, team, dice.from(1, dice.chance(80) ? 12 : 60));
-            case "proxy" -> set(n, team, up != -1 && dice.chance(60) ? up : player(), dice.from(0, dice.chance(80) ? 15 : 600));
+            case "proxy" -> set(n, team, up != -1 && dice.chance(60) ? up : player(),
+                    dice.from(0, dice.chance(80) ? 15 : 600));
             case "claim" -> set(n, team, dice.chance(60) ? lowFree() : player(),
                     dice.chance(50) ? -1 : ownPlayer(team), dice.from(0, 3));
             case "offer" -> set(n, team, ownPlayer(team), ownPlayer(team()), dice.from(-12, 12));
