@@ -32,18 +32,25 @@ final class Check {
         }
     }
 
-    /** The call throws just this, and the league shows the same face before and after. */
+    /** The call throws just this, and leaves the league as one for which it was not made. */
     void refused(String what, Class<? extends RuntimeException> kind, Supplier<DraftLeague> setting, Deed deed) {
         DraftLeague league = setting.get();
-        String before = Portrait.of(league);
-        String thrown = "nothing";
+        due(what + " throws", thrownBy(league, deed), kind.getName());
+        due(what + " leaves", Aftermath.of(league), Aftermath.of(setting.get()));
+    }
+
+    /** The call throws nothing. */
+    void allowed(String what, Supplier<DraftLeague> setting, Deed deed) {
+        due(what + " throws", thrownBy(setting.get(), deed), "nothing");
+    }
+
+    private static String thrownBy(DraftLeague league, Deed deed) {
         try {
             deed.on(league);
         } catch (RuntimeException e) {
-            thrown = e.getClass().getName();
+            return e.getClass().getName();
         }
-        due(what + " throws", thrown, kind.getName());
-        due(what + " leaves", Portrait.of(league), before);
+        return "nothing";
     }
 
     void report(String text) {

@@ -90,7 +90,7 @@ public final class DraftTest {
     /** Each team has one place; 0 and 1 have a player; player 3 is up, and team 2 leads with 5. */
     private static DraftLeague onlyTheLastHasRoom() {
         DraftLeague x = Leagues.ready();
-        onePlace(x);
+        Leagues.onePlace(x);
         x.nominate(0, 0, 2);
         x.knock();
         x.nominate(1, 1, 2);
@@ -103,13 +103,6 @@ public final class DraftTest {
         DraftLeague x = onlyTheLastHasRoom();
         x.knock();
         return x;
-    }
-
-    private static void onePlace(DraftLeague x) {
-        x.setBench(0);
-        for (int position = 1; position < 4; position++) {
-            x.setPlaces(position, 0);
-        }
     }
 
     private static void proxy() {
@@ -264,7 +257,7 @@ public final class DraftTest {
 
     private static void turnGoesRound() {
         DraftLeague x = Leagues.plain(3, 50, 8);
-        onePlace(x);
+        Leagues.onePlace(x);
         x.nominate(0, 0, 2);
         x.bid(1, 3);
         x.knock();

@@ -72,4 +72,38 @@ final class Leagues {
         }
         return x;
     }
+
+    /** Each team has one place, for the position 0, and no bench. */
+    static void onePlace(DraftLeague x) {
+        x.setBench(0);
+        for (int position = 1; position < 4; position++) {
+            x.setPlaces(position, 0);
+        }
+    }
+
+    /** As drafted; team 0 has offered its player 0 and 4 of its money for player 1 of team 1. */
+    static DraftLeague offered() {
+        DraftLeague x = drafted();
+        x.offer(0, 0, 1, 4);
+        return x;
+    }
+
+    static DraftLeague accepted() {
+        DraftLeague x = offered();
+        x.accept(0);
+        return x;
+    }
+
+    static DraftLeague votedAgainst() {
+        DraftLeague x = accepted();
+        x.veto(0, 2);
+        return x;
+    }
+
+    /** The offer is done, and the week 0 is over. */
+    static DraftLeague traded() {
+        DraftLeague x = accepted();
+        x.endWeek();
+        return x;
+    }
 }

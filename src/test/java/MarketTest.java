@@ -212,62 +212,38 @@ public final class MarketTest {
         return x;
     }
 
-    private static DraftLeague offered() {
-        DraftLeague x = Leagues.drafted();
-        x.offer(0, 0, 1, 4);
-        return x;
-    }
-
-    private static DraftLeague accepted() {
-        DraftLeague x = offered();
-        x.accept(0);
-        return x;
-    }
-
-    private static DraftLeague traded() {
-        DraftLeague x = accepted();
-        x.endWeek();
-        return x;
-    }
-
     private static void accept() {
-        DraftLeague x = offered();
+        DraftLeague x = Leagues.offered();
         CHECK.due("20 waits", x.accept(0), true);
         CHECK.due("22 waits", x.offerState(0), 'w');
         CHECK.due("20 moves nothing yet", x.ownerOf(0), 0);
         DraftLeague late = Leagues.weeksOver(20);
         CHECK.due("20 behind all weeks", late.accept(late.offer(0, 0, 1, 0)), true);
         CHECK.due("20 waits for ever", late.offerState(0), 'w');
-        DraftLeague open = offered();
+        DraftLeague open = Leagues.offered();
         open.endWeek();
         CHECK.due("20 an open offer stays", open.offerState(0), 'o');
         CHECK.due("20 a week later", open.accept(0), true);
-        CHECK.refused("20 no offer", Leagues.INDEX, MarketTest::offered, y -> y.accept(1));
-        CHECK.refused("20 offer -1", Leagues.INDEX, MarketTest::offered, y -> y.accept(-1));
-        CHECK.refused("20 accepted", Leagues.UNSUPPORTED, MarketTest::accepted, y -> y.accept(0));
-        CHECK.refused("20 over", Leagues.UNSUPPORTED, MarketTest::traded, y -> y.accept(0));
-        CHECK.refused("22 no offer", Leagues.INDEX, MarketTest::offered, y -> y.offerState(1));
-        CHECK.refused("22 offer -1", Leagues.INDEX, MarketTest::offered, y -> y.offerState(-1));
-    }
-
-    private static DraftLeague votedAgainst() {
-        DraftLeague x = accepted();
-        x.veto(0, 2);
-        return x;
+        CHECK.refused("20 no offer", Leagues.INDEX, Leagues::offered, y -> y.accept(1));
+        CHECK.refused("20 offer -1", Leagues.INDEX, Leagues::offered, y -> y.accept(-1));
+        CHECK.refused("20 accepted", Leagues.UNSUPPORTED, Leagues::accepted, y -> y.accept(0));
+        CHECK.refused("20 over", Leagues.UNSUPPORTED, Leagues::traded, y -> y.accept(0));
+        CHECK.refused("22 no offer", Leagues.INDEX, Leagues::offered, y -> y.offerState(1));
+        CHECK.refused("22 offer -1", Leagues.INDEX, Leagues::offered, y -> y.offerState(-1));
     }
 
     private static void veto() {
-        CHECK.due("21 one vote", accepted().veto(0, 2), 1);
-        CHECK.refused("21 no offer", Leagues.INDEX, MarketTest::accepted, y -> y.veto(1, 2));
-        CHECK.refused("21 offer -1", Leagues.INDEX, MarketTest::accepted, y -> y.veto(-1, 2));
-        CHECK.refused("21 no team", Leagues.INDEX, MarketTest::offered, y -> y.veto(0, 3));
-        CHECK.refused("21 team -1", Leagues.INDEX, MarketTest::offered, y -> y.veto(0, -1));
-        CHECK.refused("21 open", Leagues.UNSUPPORTED, MarketTest::offered, y -> y.veto(0, 2));
-        CHECK.refused("21 over", Leagues.UNSUPPORTED, MarketTest::traded, y -> y.veto(0, 2));
-        CHECK.refused("21 who offered", Leagues.UNSUPPORTED, MarketTest::accepted, y -> y.veto(0, 0));
-        CHECK.refused("21 who was asked", Leagues.UNSUPPORTED, MarketTest::accepted, y -> y.veto(0, 1));
-        CHECK.refused("21 twice", Leagues.UNSUPPORTED, MarketTest::votedAgainst, y -> y.veto(0, 2));
-        DraftLeague x = votedAgainst();
+        CHECK.due("21 one vote", Leagues.accepted().veto(0, 2), 1);
+        CHECK.refused("21 no offer", Leagues.INDEX, Leagues::accepted, y -> y.veto(1, 2));
+        CHECK.refused("21 offer -1", Leagues.INDEX, Leagues::accepted, y -> y.veto(-1, 2));
+        CHECK.refused("21 no team", Leagues.INDEX, Leagues::offered, y -> y.veto(0, 3));
+        CHECK.refused("21 team -1", Leagues.INDEX, Leagues::offered, y -> y.veto(0, -1));
+        CHECK.refused("21 open", Leagues.UNSUPPORTED, Leagues::offered, y -> y.veto(0, 2));
+        CHECK.refused("21 over", Leagues.UNSUPPORTED, Leagues::traded, y -> y.veto(0, 2));
+        CHECK.refused("21 who offered", Leagues.UNSUPPORTED, Leagues::accepted, y -> y.veto(0, 0));
+        CHECK.refused("21 who was asked", Leagues.UNSUPPORTED, Leagues::accepted, y -> y.veto(0, 1));
+        CHECK.refused("21 twice", Leagues.UNSUPPORTED, Leagues::votedAgainst, y -> y.veto(0, 2));
+        DraftLeague x = Leagues.votedAgainst();
         x.endWeek();
         CHECK.due("22 vetoed", x.offerState(0), 'v');
         CHECK.due("21 stays", x.ownerOf(0), 0);
@@ -303,7 +279,7 @@ public final class MarketTest {
     }
 
     private static void tradeDone() {
-        DraftLeague x = accepted();
+        DraftLeague x = Leagues.accepted();
         x.setPositions(0, 4);
         x.endWeek();
         CHECK.due("22 done", x.offerState(0), 'd');
@@ -342,7 +318,7 @@ public final class MarketTest {
         y.endWeek();
         CHECK.due("22 the other has no money any more", y.offerState(1), 'x');
         CHECK.due("22 nothing went over", y.money(2), 43);
-        DraftLeague both = votedAgainst();
+        DraftLeague both = Leagues.votedAgainst();
         both.accept(both.offer(0, 0, 2, 0));
         both.endWeek();
         CHECK.due("22 the veto is looked at first", both.offerState(0), 'v');

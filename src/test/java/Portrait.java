@@ -1,11 +1,12 @@
 import java.util.function.Supplier;
 
-/** All that a small league shows, in one text: two portraits of it stay far below 512 calls. */
+/** All that a small league shows, in one text, by some 150 calls. */
 final class Portrait {
     private static final int TEAMS = 3;
     private static final int PLAYERS = 8;
     private static final int OFFERS = 3;
-    private static final int WEEKS = 2;
+    private static final int[] WEEKS = {0, 1};
+    private static final int LAST_WEEK = 19;
 
     private Portrait() {
     }
@@ -16,6 +17,7 @@ final class Portrait {
         text.append(x.suspects()).append(' ').append(x.isSound()).append(' ');
         show(text, () -> x.turnOf());
         show(text, () -> x.meanScore());
+        show(text, () -> x.freeShare());
         for (int team = 0; team < TEAMS; team++) {
             showTeam(text, x, team);
         }
@@ -25,6 +27,7 @@ final class Portrait {
         for (int offer = 0; offer < OFFERS; offer++) {
             int number = offer;
             show(text, () -> x.offerState(number));
+            show(text, () -> x.tradeValue(number));
         }
         return text.toString();
     }
@@ -33,29 +36,29 @@ final class Portrait {
         show(text, () -> x.money(team));
         show(text, () -> x.size(team));
         show(text, () -> x.rank(team));
+        show(text, () -> x.ranked(team + 1));
         show(text, () -> x.wins(team));
         show(text, () -> x.sumOf(team));
-        for (int week = 0; week < WEEKS; week++) {
-            int number = week;
-            show(text, () -> x.score(number, team));
-            show(text, () -> x.result(number, team));
+        for (int week : WEEKS) {
+            show(text, () -> x.score(week, team));
+            show(text, () -> x.result(week, team));
         }
     }
 
     private static void showPlayer(StringBuilder text, DraftLeague x, int player) {
         show(text, () -> x.ownerOf(player));
         show(text, () -> x.paidFor(player));
-        for (int week = 0; week < WEEKS; week++) {
-            int number = week;
-            show(text, () -> x.points(number, player));
+        show(text, () -> x.points(LAST_WEEK, player));
+        for (int week : WEEKS) {
+            show(text, () -> x.points(week, player));
             for (int team = 0; team < TEAMS; team++) {
                 int owner = team;
-                show(text, () -> x.fills(number, owner, player));
+                show(text, () -> x.fills(week, owner, player));
             }
         }
     }
 
-    private static void show(StringBuilder text, Supplier<Object> call) {
+    static void show(StringBuilder text, Supplier<Object> call) {
         Object answer;
         try {
             answer = call.get();
