@@ -125,6 +125,9 @@ public final class FiguresTest {
         CHECK.due("41 two weeks", x.meanScore(), 41.0 / 6.0);
         x.did(0, 2, 0, 0);
         CHECK.due("41 corrected", x.meanScore(), 33.0 / 6.0);
+        DraftLeague once = Leagues.weeksOver(3);
+        once.did(0, 0, 1, 11);
+        CHECK.due("41 divided once, by 3 times 3", once.meanScore(), 11.0 / 9.0);
         CHECK.refused("41 no weeks", Leagues.ARITHMETIC, Leagues::drafted, y -> y.meanScore());
         CHECK.refused("41 neither", Leagues.ARITHMETIC, Leagues::empty, y -> y.meanScore());
         CHECK.refused("41 no teams", Leagues.ARITHMETIC, FiguresTest::weekWithoutTeams, y -> y.meanScore());

@@ -19,6 +19,7 @@ public final class MarketTermsTest {
         rankBehindThisWeek();
         rankAheadOfAllClaims();
         claimsByTheirOrder();
+        claimsOfALaterWeek();
         claimedIsFree();
         claimHasTheMoney();
         whoGoesIsStillItsOwn();
@@ -328,6 +329,19 @@ public final class MarketTermsTest {
         CHECK.due("Claims: none of the others", many.ownerOf(6), -1);
     }
 
+    /** The order of a week with other claims has no part in it. */
+    private static void claimsOfALaterWeek() {
+        DraftLeague x = Leagues.drafted();
+        x.claim(0, 5, -1, 1);
+        x.claim(1, 5, -1, 3);
+        x.claim(2, 5, -1, 2);
+        x.endWeek();
+        CHECK.due("Claims: of the first week", x.ownerOf(5), 1);
+        x.claim(2, 6, -1, 2);
+        x.endWeek();
+        CHECK.due("Claims: the only one of a later week", x.ownerOf(6), 2);
+    }
+
     private static void claimedIsFree() {
         DraftLeague x = Leagues.drafted();
         x.claim(0, 5, -1, 9);
@@ -475,6 +489,7 @@ public final class MarketTermsTest {
         CHECK.due("Table: the running week counts for nothing", x.rank(1), 1);
         x.endWeek();
         CHECK.due("Table: 1 point more", x.rank(2), 1);
+        CHECK.due("Table: 1 point less", x.rank(1), 2);
     }
 
     // ---- collusion

@@ -21,6 +21,7 @@ public final class WeekTermsTest {
         benchIsTheLast();
         risingNumbersNotPoints();
         fillsAgainstAllFillings();
+        scoresOfOneTeamAtATime();
         finalWeeks();
         CHECK.finish();
     }
@@ -329,6 +330,19 @@ public final class WeekTermsTest {
                 CHECK.due("Score: the filling, round " + round, x.fills(0, 0, player), all.positionOf(player));
             }
         }
+    }
+
+    /** A small team behind a large one: what the large one's players add is not the small one's. */
+    private static void scoresOfOneTeamAtATime() {
+        DraftLeague x = Leagues.drafted();
+        x.did(0, 3, 0, 5);
+        x.did(0, 4, 0, 6);
+        CHECK.due("Score: of two players", x.score(0, 0), 20);
+        CHECK.due("Score: of one, who did nothing", x.score(0, 2), 0);
+        CHECK.due("Score: of the two others", x.score(0, 1), 24);
+        CHECK.due("Score: of one, again", x.score(0, 2), 0);
+        CHECK.due("Score: a free player's points are no team's", x.did(0, 5, 0, 9), 36);
+        CHECK.due("Score: of one, once more", x.score(0, 2), 0);
     }
 
     // ---- final weeks
