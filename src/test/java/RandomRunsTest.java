@@ -7,7 +7,7 @@ import java.util.TreeMap;
 /** Runs of up to 512 calls: the league and the slow model of the document always answer the same. */
 public final class RandomRunsTest {
     private static final int RUNS = 800;
-    private static final int CALLS = 511;
+    private static final int CALLS = 512;
     private static final String[] LOOKS = {"ownerOf", "paidFor", "money", "size", "offerState", "week", "points",
         "score", "fills", "result", "rank", "ranked", "wins", "sumOf", "suspects", "tradeValue", "pot", "players",
         "freeShare", "meanScore", "isSound", "turnOf"};
