@@ -21,7 +21,9 @@ public final class RangesTest {
         setBench();
         setRule();
         nominate();
+        nominateByPrice();
         bid();
+        bidsWithWhatIsLeft();
         proxy();
         looksAtPlayers();
         looksAtTeams();
@@ -192,6 +194,40 @@ public final class RangesTest {
                 CHECK.due("7 each number of points is set", x.setRule(kind, 0), points);
             }
         }
+    }
+
+    /** Each player has a price of his own, from 3 on: 3, 4, 5 and so on. */
+    private static DraftLeague priced() {
+        DraftLeague x = Leagues.plain(2, 50, 0);
+        for (int player = 0; player < 5; player++) {
+            x.addPlayer(15, 3 + player);
+        }
+        return x;
+    }
+
+    private static void nominateByPrice() {
+        for (int player = 0; player < 5; player++) {
+            int number = player;
+            CHECK.allowed("8 the price of " + player, RangesTest::priced, x -> x.nominate(0, number, 3 + number));
+            CHECK.refused("8 less than the price of " + player, Leagues.ARGUMENT, RangesTest::priced,
+                    x -> x.nominate(0, number, 2 + number));
+        }
+    }
+
+    /** Team 0 has 37 of its 50 left, team 1 has 35, and team 2 has 43. */
+    private static void bidsWithWhatIsLeft() {
+        CHECK.allowed("8 all that is left", Leagues::sold, x -> x.nominate(2, 5, 43));
+        CHECK.refused("8 more than is left", Leagues.ARGUMENT, Leagues::sold, x -> x.nominate(2, 5, 44));
+        CHECK.allowed("9 all that is left", RangesTest::soldAndUp, x -> x.bid(0, 37));
+        CHECK.refused("9 more than is left", Leagues.ARGUMENT, RangesTest::soldAndUp, x -> x.bid(0, 38));
+        CHECK.allowed("9 all that the other has left", RangesTest::soldAndUp, x -> x.bid(1, 35));
+        CHECK.refused("9 more than the other has left", Leagues.ARGUMENT, RangesTest::soldAndUp, x -> x.bid(1, 36));
+    }
+
+    private static DraftLeague soldAndUp() {
+        DraftLeague x = Leagues.sold();
+        x.nominate(2, 5, 2);
+        return x;
     }
 
     private static void nominate() {

@@ -4,6 +4,7 @@ public final class SeasonTest {
 
     public static void main(String[] args) {
         meet();
+        meetAhead();
         meetRefused();
         did();
         didRefused();
@@ -30,6 +31,44 @@ public final class SeasonTest {
         CHECK.due("23 another week", x.meet(19, 2, 1), true);
         DraftLeague y = Leagues.played();
         CHECK.due("23 the running week", y.meet(1, 0, 1), true);
+    }
+
+    /** Matches of several weeks, set in the first one: each week has its own. */
+    private static void meetAhead() {
+        DraftLeague x = Leagues.drafted();
+        CHECK.due("23 a week ahead", x.meet(2, 0, 1), true);
+        CHECK.due("23 the running week is free", x.meet(0, 1, 2), true);
+        CHECK.due("23 the week ahead is not", x.meet(2, 2, 0), false);
+        CHECK.due("23 the week between is", x.meet(1, 2, 0), true);
+        x.did(0, 2, 0, 1);
+        x.did(1, 2, 0, 1);
+        x.did(2, 0, 0, 1);
+        for (int week = 0; week < 3; week++) {
+            x.endWeek();
+        }
+        CHECK.due("31 of the first week", x.result(0, 2), 2);
+        CHECK.due("31 of the first week", x.result(0, 1), 0);
+        CHECK.due("31 of the second week", x.result(1, 2), 2);
+        CHECK.due("31 of the second week", x.result(1, 0), 0);
+        CHECK.due("31 of the third week", x.result(2, 0), 2);
+        CHECK.due("31 of the third week", x.result(2, 1), 0);
+        for (int week = 0; week < 3; week++) {
+            int number = week;
+            CHECK.refused("31 no match in this week", Leagues.ELEMENT, SeasonTest::threeMatches,
+                    y -> y.result(number, number));
+        }
+    }
+
+    /** In each week the team of its number has no match. */
+    private static DraftLeague threeMatches() {
+        DraftLeague x = Leagues.drafted();
+        x.meet(2, 0, 1);
+        x.meet(0, 1, 2);
+        x.meet(1, 2, 0);
+        for (int week = 0; week < 3; week++) {
+            x.endWeek();
+        }
+        return x;
     }
 
     private static void meetRefused() {
