@@ -4,7 +4,7 @@ import java.util.Arrays;
 import java.util.Map;
 import java.util.TreeMap;
 
-/** Runs of up to 512 calls: the league and the slow model of the document always answer the same. */
+/** Runs of 512 calls: the league and the slow model of the document always answer the same. */
 public final class RandomRunsTest {
     private static final int RUNS = 800;
     private static final int CALLS = 512;
